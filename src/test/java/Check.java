@@ -32,6 +32,11 @@ final class Check {
         }
     }
 
+    /** How many answers were asked for so far. */
+    static int asked() {
+        return asked;
+    }
+
     static void end() {
         System.out.println(wrong == 0 ? asked + " answers are as due" : wrong + " of " + asked + " are not as due");
         if (wrong != 0) {
