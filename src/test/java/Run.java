@@ -119,13 +119,18 @@ final class Run {
             int most = Math.min(LOOKED_AT, CALLS - calls.size());
             Run with = again(calls.size());
             Run without = again(calls.size() - 1);
-            Check.due(where(call) + " changes", "nothing", () -> unlike(without.look(most), with.look(most)));
+            unchanged(call, without.look(most), with.look(most));
         }
         return this;
     }
 
+    /** Two looks at like objects, one of which had a call more, must show the same. */
+    static void unchanged(String call, String without, String with) {
+        Check.due(title + ": " + call + " changes", "nothing", () -> unlike(without, with));
+    }
+
     /** The first line of two looks that is not the same in both, or nothing. */
-    static String unlike(String first, String second) {
+    private static String unlike(String first, String second) {
         String[] one = first.split("\n");
         String[] other = second.split("\n");
         for (int i = 0; i < Math.min(one.length, other.length); i++) {

@@ -133,16 +133,20 @@ final class TermEdges {
 
     private static void asking() {
         Run x = full();
-        String first = x.look(200);
-        Check.due("asking changes", "nothing", () -> Run.unlike(first, x.look(200)));
+        Run.unchanged("asking", x.look(200), x.look(200));
         Run asked = full().tell("poseAnew(0, 0, 1, 9)", "poseAnew(0, NONE, 1, 9)", "pose(0, 1, 1, 5)", "mixes(0)");
         asked.tell("needs(0)", "ofFrame(0, 2, 2)", "ofFrame(1, 0, 3)", "kept(0, 0, 0)", "ofNote(1, 1)", "count(4)");
-        Check.due("asking one by one changes", "nothing", () -> Run.unlike(full().look(300), asked.look(300)));
+        Run.unchanged("asking one by one", full().look(300), asked.look(300));
         Run late = full();
         late.look(100);
         late.tell("publish(0)", "render(0)");
         Run early = full().tell("publish(0)", "render(0)");
-        Check.due("asking ahead of a rendering changes", "nothing", () -> Run.unlike(early.look(300), late.look(300)));
+        Run.unchanged("asking ahead of a rendering", early.look(300), late.look(300));
+        // A version that looks like the kept one: asking what needs to be rendered does not keep it.
+        Run like = two().tell("cast(0, 0, NONE, 0, 1)", "render(0)", "publish(0)").due(0, "needs(0)")
+                .due(0, "count(4)");
+        like.due(0, "mixes(0)").due(0, "ofFrame(0, 0, 2)").due(1, "ofFrame(0, 1, 3)").pose(0, "0, 1, 0, 0");
+        like.dueEach("kept(0, #, 0)", 0, 0).dueEach("kept(0, #, 0)", 0, 0).dueEach("ofFrame(0, #, 5)", 1, 1);
     }
 
     private static void roundedDown() {
