@@ -94,6 +94,14 @@ final class Run {
         return this;
     }
 
+    /** The answer of a call that must not be refused. */
+    String answer(String call) {
+        String place = where(call);
+        String answer = make(call);
+        Check.isTrue(place + " is not refused", !answer.startsWith("throws."));
+        return answer;
+    }
+
     Run due(Object want, String call) {
         Check.due(where(call), want, () -> make(call));
         return this;
